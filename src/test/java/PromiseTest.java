@@ -468,6 +468,21 @@ public final class PromiseTest {
         Due.is("neighbours(6), seen downwards", sides.neighbours(6), 4);
         Due.is("neighbours(19), seen to the left and downwards", sides.neighbours(19), 6);
         Due.is("neighbours(16), seen to the right and upwards", sides.neighbours(16), 4);
+        neighboursTwoStepsDeeper();
+    }
+
+    private static void neighboursTwoStepsDeeper() {
+        // a leaf, what is beside it, a quarter of that at the leaf's side, and one that is not
+        int[][] sides = {{4, 5, 0, 1}, {4, 5, 2, 3}, {4, 6, 0, 2}, {4, 6, 1, 3}, {7, 6, 1, 0}, {7, 6, 3, 2}, {7, 5, 2, 0},
+            {7, 5, 3, 1}};
+        for (int[] each : sides) {
+            QuarterTiles tiles = new QuarterTiles();
+            int near = 4 * each[1] + each[2];
+            for (int tile : new int[] {1, each[1], near, 4 * near + each[2], 4 * each[1] + each[3]}) {
+                tiles.split(tile, true);
+            }
+            Due.is("neighbours(" + each[0] + ") with " + near + " split twice", tiles.neighbours(each[0]), 5);
+        }
     }
 
     // ---- promise 14
@@ -489,6 +504,12 @@ public final class PromiseTest {
         for (int wrong : new int[] {-1, 11, Integer.MAX_VALUE, Integer.MIN_VALUE}) {
             Due.is("count(" + wrong + ")", tiles.count(wrong), BAD_VALUE);
         }
+        QuarterTiles lone = withPoints("0,0;0,1;1,0;1,1;10,10");
+        lone.set(0, 1);
+        // 1, 4, 16, 64, 256 and 1024 are split: 19 leaves, one with each point
+        Due.is("count of leaves at the depth 6", lone.count(1), 19);
+        Due.is("count of leaves without points", lone.count(4), 14);
+        Due.is("count of tiles there", lone.count(2), 25);
         QuarterTiles set = new QuarterTiles();
         set.set(0, 7);
         set.set(1, 3);
