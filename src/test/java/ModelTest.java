@@ -1,8 +1,10 @@
 /** Long runs of calls, each answer compared with that of the model. The same runs each time. */
-public final class ModelTest {
-    private static final int CALLS = 512;
+public final class ModelTest extends Given {
     private static final int[] ODD_NUMBERS =
-        {0, -1, 2, 3, 8, 15, 32, 63, 128, 512, 2048, 4095, 8192, 1 << 20, Integer.MAX_VALUE, Integer.MIN_VALUE};
+        {0, -1, 2, 3, 8, 15, 32, 63, 128, 512, 2048, 4095, 8192, 1 << 20, GREATEST, LEAST};
+
+    /** Putting a text of three points in three parts, and asking for its fault. */
+    private static final int MOST_CALLS_OF_A_CHANGE = 4;
 
     private long seed;
     private final QuarterTiles program = new QuarterTiles();
@@ -37,8 +39,8 @@ public final class ModelTest {
     private void go() {
         spread = new int[] {64, 16, 4, 64}[run % 4];
         begin();
-        while (calls < CALLS) {
-            if (below(2) == 0) {
+        while (calls < CALLS_OF_AN_OBJECT) {
+            if (calls + MOST_CALLS_OF_A_CHANGE <= CALLS_OF_AN_OBJECT && below(2) == 0) {
                 change();
             } else {
                 ask();
@@ -66,7 +68,7 @@ public final class ModelTest {
     private int coordinate() {
         int chance = below(40);
         if (chance == 0) {
-            return new int[] {-1, 64, Integer.MIN_VALUE, Integer.MAX_VALUE}[below(4)];
+            return NO_COORDINATES[below(NO_COORDINATES.length)];
         }
         if (chance < 4) {
             return new int[] {0, 63, 31, 32}[below(4)];
@@ -76,7 +78,7 @@ public final class ModelTest {
 
     private int what(int end) {
         int chance = below(30);
-        return chance == 0 ? -1 : chance == 1 ? end : chance == 2 ? Integer.MIN_VALUE : below(end);
+        return chance == 0 ? -1 : chance == 1 ? end : chance == 2 ? LEAST : below(end);
     }
 
     private int aPoint() {
@@ -171,14 +173,6 @@ public final class ModelTest {
 
     private void put(long characters) {
         due("put(" + characters + ")", program.put(characters), model.put(characters));
-    }
-
-    static long packed(String text) {
-        long characters = 0;
-        for (char each : text.toCharArray()) {
-            characters = characters << 8 | each;
-        }
-        return characters;
     }
 
     private void ask() {

@@ -1,9 +1,7 @@
 /** For each promise of the document what it says: the ordinary, the edges that it names, wrong inputs and their order. */
-public final class PromiseTest {
-    private static final int NO_SUCH = -1, BAD_VALUE = -2, BAD_TEXT = -3, TOO_MANY = -4, NOT_POSSIBLE = -5, NONE = -6;
-    private static final int[] NO_NUMBERS = {0, -1, 2, 3, 8, 15, 32, 63, 128, 255, 512, 1023, 2048, 4095, 8192, 16384,
-        Integer.MAX_VALUE, Integer.MIN_VALUE};
-    private static final int[] NO_COORDINATES = {-1, 64, Integer.MAX_VALUE, Integer.MIN_VALUE};
+public final class PromiseTest extends Given {
+    /** The tiles that these tests order, and some that they do not. */
+    private static final int[] ASKED = {1, 4, 5, 6, 7, 69, 1024, 1030, 1035, 2047};
 
     private PromiseTest() {
     }
@@ -41,28 +39,6 @@ public final class PromiseTest {
 
     // ---- help
 
-    private static void text(QuarterTiles tiles, String text) {
-        for (int from = 0; from < text.length(); from += 8) {
-            tiles.put(ModelTest.packed(text.substring(from, Math.min(from + 8, text.length()))));
-        }
-    }
-
-    private static QuarterTiles withPoints(String text) {
-        QuarterTiles tiles = new QuarterTiles();
-        text(tiles, text);
-        tiles.putAll();
-        return tiles;
-    }
-
-    /** Points (0, 0) to (9, 4), row by row. */
-    private static QuarterTiles withFiftyPoints() {
-        QuarterTiles tiles = new QuarterTiles();
-        for (int i = 0; i < 50; i++) {
-            Due.holds("point " + i + " is put", tiles.point(i % 10, i / 10) > 0);
-        }
-        return tiles;
-    }
-
     /** All that a call may change, as one text. */
     private static String all(QuarterTiles tiles) {
         StringBuilder all = new StringBuilder();
@@ -72,7 +48,7 @@ public final class PromiseTest {
         for (int point = 0; point < tiles.count(0); point++) {
             all.append(tiles.of(point, 0)).append(',').append(tiles.of(point, 1)).append(';');
         }
-        for (int tile = 1; tile < 2048; tile++) {
+        for (int tile : ASKED) {
             if (tiles.tile(tile, 6) == 1) {
                 all.append(" /").append(tile);
             }
@@ -662,7 +638,7 @@ public final class PromiseTest {
         QuarterTiles tiles = new QuarterTiles();
         Due.is("put('7')", tiles.put('7'), 1);
         Due.is("put(',')", tiles.put(','), 2);
-        Due.is("put(\"12;34,56\")", tiles.put(ModelTest.packed("12;34,56")), 10);
+        Due.is("put(\"12;34,56\")", tiles.put(packed("12;34,56")), 10);
         Due.is("put: read in order", tiles.putAll(), 2);
         Due.is("put: x of the first", tiles.of(0, 0), 7);
         Due.is("put: y of the first", tiles.of(0, 1), 12);
