@@ -701,7 +701,7 @@ public final class QuarterTiles {
             return leaves + (leaves - 1) / (QUARTERS - 1);
         }
 
-        int leavesIn(int tile, int depth) {
+        private int leavesIn(int tile, int depth) {
             if (depth >= DEEPEST || !wouldBeSplit(tile, depth)) {
                 return 1;
             }
@@ -712,7 +712,7 @@ public final class QuarterTiles {
             return sum;
         }
 
-        int emptyLeavesIn(int tile, int depth) {
+        private int emptyLeavesIn(int tile, int depth) {
             if (depth >= DEEPEST || !wouldBeSplit(tile, depth)) {
                 return pointsIn(tile) == 0 ? 1 : 0;
             }
@@ -723,7 +723,7 @@ public final class QuarterTiles {
             return sum;
         }
 
-        int deepestIn(int tile, int depth) {
+        private int deepestIn(int tile, int depth) {
             if (depth >= DEEPEST || !wouldBeSplit(tile, depth)) {
                 return depth;
             }
@@ -734,7 +734,7 @@ public final class QuarterTiles {
             return deepest;
         }
 
-        int leavesMeeting(Window window, int tile, int depth) {
+        private int leavesMeeting(Window window, int tile, int depth) {
             if (!window.meets(tile, depth)) {
                 return 0;
             }
@@ -748,7 +748,7 @@ public final class QuarterTiles {
             return sum;
         }
 
-        int tilesMeeting(Window window, int tile, int depth) {
+        private int tilesMeeting(Window window, int tile, int depth) {
             if (!window.meets(tile, depth)) {
                 return 0;
             }
@@ -788,7 +788,7 @@ public final class QuarterTiles {
                 + leavesSeen(QUARTERS * tile + OTHER_QUARTER_SEEN[side], depth + 1, direction);
         }
 
-        int unevennessIn(int tile, int depth) {
+        private int unevennessIn(int tile, int depth) {
             if (depth >= DEEPEST || !wouldBeSplit(tile, depth)) {
                 return greatestStepOutOf(tile, depth);
             }

@@ -45,6 +45,10 @@ public final class LanguageTest {
             Due.holds(head + " has at most 7 parameters", parameters <= 7);
             int indent = matcher.group().indexOf(head);
             int end = code.indexOf("\n" + " ".repeat(indent) + "}", matcher.start());
+            String body = code.substring(matcher.end(), end);
+            String name = head.replaceAll("\\(.*", "").replaceAll(".* ", "");
+            Due.holds(head + " is private, if it calls itself",
+                head.startsWith("private ") || !Pattern.compile("(?<![\\w.])" + name + "\\(").matcher(body).find());
             long lines = code.substring(matcher.start(), end).lines().count();
             Due.holds(head + " has at most 60 lines, not " + lines, lines <= 60);
         }

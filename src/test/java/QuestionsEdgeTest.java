@@ -18,9 +18,15 @@ public final class QuestionsEdgeTest extends Given {
         besideLeastPlace();
         neighboursOfEdges();
         neighboursOfMany();
+        neighboursAcrossEachSide();
         countLeast();
         countGreatest();
+        leavesWithoutPoints();
+        countUpToDeep();
+        ordersOfTilesNotThereCountForNothing();
         unevennessOfLeaves();
+        unevennessAcrossEachSide();
+        unevennessAcrossCorners();
         windowOfOnePlace();
         windowOfAll();
         windowAtSides();
@@ -90,15 +96,19 @@ public final class QuestionsEdgeTest extends Given {
 
     // ---- promise 9
 
+    private static void leavesAre(QuarterTiles tiles, int[][] due) {
+        for (int[] each : due) {
+            Due.is("leafAt(" + each[0] + ", " + each[1] + ")", tiles.leafAt(each[0], each[1]), each[2]);
+        }
+    }
+
     /** "Returns the leaf of a place": on both sides of what parts two leaves. */
     private static void leafAtSides() {
         QuarterTiles tiles = withOrders(1, 7, 28);
         int[][] due = {{31, 31, 4}, {32, 31, 5}, {31, 32, 6}, {32, 32, 112}, {39, 39, 112}, {40, 39, 113}, {39, 40, 114},
             {40, 40, 115}, {47, 47, 115}, {48, 47, 29}, {47, 48, 30}, {48, 48, 31}, {63, 63, 31}, {0, 0, 4}, {63, 0, 5},
             {0, 63, 6}};
-        for (int[] each : due) {
-            Due.is("leafAt(" + each[0] + ", " + each[1] + ")", tiles.leafAt(each[0], each[1]), each[2]);
-        }
+        leavesAre(tiles, due);
         Due.is("leafAt of the whole map", new QuarterTiles().leafAt(63, 63), 1);
     }
 
@@ -106,9 +116,7 @@ public final class QuestionsEdgeTest extends Given {
         QuarterTiles tiles = withOrders(1, 4, 16, 64, 256, 1024, 7, 31, 127, 511, 2047);
         int[][] due = {{0, 0, 4096}, {1, 0, 4097}, {0, 1, 4098}, {1, 1, 4099}, {2, 0, 1025}, {0, 2, 1026}, {62, 62, 8188},
             {63, 62, 8189}, {62, 63, 8190}, {63, 63, 8191}, {61, 63, 2046}, {63, 61, 2045}};
-        for (int[] each : due) {
-            Due.is("leafAt(" + each[0] + ", " + each[1] + ")", tiles.leafAt(each[0], each[1]), each[2]);
-        }
+        leavesAre(tiles, due);
     }
 
     // ---- promise 10
@@ -276,6 +284,29 @@ public final class QuestionsEdgeTest extends Given {
         Due.is("neighbours of a, split around with 12 orders", all.neighbours(4), 13);
     }
 
+    /** A quarter counts for the leaf beside it if it is at this side, whether it is split once or twice. */
+    private static void neighboursAcrossEachSide() {
+        // a leaf, the tile beside it, the two quarters of this one that are at the side of the leaf
+        int[][] sides = {{4, 5, 0, 2}, {4, 6, 0, 1}, {7, 6, 1, 3}, {7, 5, 2, 3}};
+        for (int[] each : sides) {
+            for (int near = 2; near <= 3; near++) {
+                QuarterTiles tiles = withOrders(1, each[1]);
+                int due = 3;
+                Due.is("neighbours(" + each[0] + ") with " + each[1] + " split", tiles.neighbours(each[0]), due);
+                for (int quarter = 0; quarter < 4; quarter++) {
+                    tiles.split(4 * each[1] + quarter, true);
+                    due += quarter == each[2] || quarter == each[3] ? 1 : 0;
+                    Due.is("neighbours(" + each[0] + ") with its quarter " + quarter, tiles.neighbours(each[0]), due);
+                }
+                for (int quarter = 0; quarter < 4; quarter++) {
+                    tiles.split(16 * each[1] + 4 * each[near] + quarter, true);
+                    due += quarter == each[2] || quarter == each[3] ? 1 : 0;
+                    Due.is("neighbours(" + each[0] + ") with a smaller one " + quarter, tiles.neighbours(each[0]), due);
+                }
+            }
+        }
+    }
+
     // ---- promise 14
 
     /** The least that each number can be. */
@@ -317,6 +348,67 @@ public final class QuestionsEdgeTest extends Given {
         Due.is("count(3), the greatest", tiles.count(3), 6);
     }
 
+    /** "4 leaves without points": all of them, some, none. */
+    private static void leavesWithoutPoints() {
+        QuarterTiles tiles = withOrders(1, 7, 31);
+        Due.is("all ten are without points", tiles.count(4), 10);
+        int[][] places = {{0, 0}, {63, 0}, {0, 63}, {47, 47}, {63, 47}, {47, 63}, {55, 55}, {63, 55}, {55, 63}, {63, 63}};
+        for (int i = 0; i < places.length; i++) {
+            tiles.point(places[i][0], places[i][1]);
+            Due.is("leaves without points, when " + (i + 1) + " have one", tiles.count(4), 9 - i);
+        }
+        tiles.point(1, 1);
+        Due.is("leaves without points, when one has two", tiles.count(4), 0);
+        Due.is("leaves", tiles.count(1), 10);
+        tiles.take(10);
+        tiles.take(9);
+        Due.is("leaves without points, when one has none again", tiles.count(4), 1);
+        Due.is("leaves without points at the depth 6", withPoints("63,63;62,63;63,62").count(4), 16);
+        // of 61 leaves 40 have one point each, those of y = 4 are in five by two
+        Due.is("leaves without points of 50", withFiftyPoints().count(4), 16);
+    }
+
+    /** Tiles at the depth DEEP are leaves, also with too many points and with orders. */
+    private static void countUpToDeep() {
+        QuarterTiles tiles = withPoints("0,0;1,0");
+        tiles.set(FULL, 1);
+        for (int order : new int[] {1, 7, 31, 127, 511, 2047}) {
+            tiles.split(order, true);
+        }
+        for (int deep = 1; deep <= 6; deep++) {
+            tiles.set(DEEP, deep);
+            // 1 is split for both, behind it one more of each depth for the points, and one for an order
+            int splits = 2 * deep - 1;
+            Due.is("leaves with DEEP " + deep, tiles.count(1), 1 + 3 * splits);
+            Due.is("tiles with DEEP " + deep, tiles.count(2), 1 + 4 * splits);
+            Due.is("depth with DEEP " + deep, tiles.count(3), deep);
+            Due.is("leaves without points with DEEP " + deep, tiles.count(4), 3 * splits - (deep == 6 ? 1 : 0));
+            Due.is("unevenness with DEEP " + deep, tiles.count(6), deep == 1 ? 0 : 1);
+            Due.is("leaves of the window with DEEP " + deep, tiles.window(0, 0, 63, 63, 1), 1 + 3 * splits);
+            Due.is("tiles of the window with DEEP " + deep, tiles.window(0, 0, 63, 63, 2), 1 + 4 * splits);
+            Due.is("smallest with a window with DEEP " + deep, tiles.window(63, 63, 63, 63, 3), (4 << 2 * deep) / 2 - 1);
+        }
+    }
+
+    private static void ordersOfTilesNotThereCountForNothing() {
+        for (int split = 4; split <= 7; split++) {
+            for (int leaf = 4; leaf <= 7; leaf++) {
+                if (leaf != split) {
+                    QuarterTiles tiles = withOrders(1, split, 4 * leaf, 4 * leaf + 1, 4 * leaf + 2, 4 * leaf + 3);
+                    String with = " with " + split + " and orders in " + leaf;
+                    int[] due = {0, 7, 9, 2, 7, 6, 1};
+                    for (int what = 0; what < due.length; what++) {
+                        Due.is("count(" + what + ")" + with, tiles.count(what), due[what]);
+                    }
+                    Due.is("leaves of the window" + with, tiles.window(0, 0, 63, 63, 1), 7);
+                    Due.is("tiles of the window" + with, tiles.window(0, 0, 63, 63, 2), 9);
+                    Due.is("neighbours" + with, tiles.neighbours(leaf), leaf + split == 11 ? 2 : 3);
+                }
+            }
+        }
+        Due.is("unevenness beside what is not there", withOrders(1, 4, 6, 7, 24).count(6), 1);
+    }
+
     /** "the greatest difference of depth of two leaves that are neighbours (0 if there are none)". */
     private static void unevennessOfLeaves() {
         int[] orders = {1, 4, 19, 79, 319, 1279};
@@ -329,9 +421,40 @@ public final class QuestionsEdgeTest extends Given {
         }
         // a place in the outer corner of the map, where the leaves grow step by step
         Due.is("unevenness of steps", withOrders(1, 7, 31, 127, 511, 2047).count(6), 1);
-        // 16 and its last quarter: leaves that meet the larger ones at a corner only
-        Due.is("unevenness across a corner does not count", withOrders(1, 5, 6, 7, 4, 20, 24, 17, 18).count(6), 1);
-        Due.is("unevenness of depths across a corner", withOrders(1, 7, 4, 5, 28).count(6), 2);
+    }
+
+    /** Leaves that are smaller and smaller, beside one of the depth 1, at both ends of each of its sides. */
+    private static void unevennessAcrossEachSide() {
+        int[][] chains = {{1, 4, 17, 69, 277, 1109}, {1, 4, 18, 74, 298, 1194}, {1, 5, 20, 80, 320, 1280},
+            {1, 6, 24, 96, 384, 1536}, {1, 6, 27, 111, 447, 1791}, {1, 5, 23, 95, 383, 1535}, {1, 5, 22, 90, 362, 1450},
+            {1, 6, 25, 101, 405, 1621}};
+        int[] beside = {5, 6, 4, 4, 7, 7, 4, 4};
+        for (int way = 0; way < chains.length; way++) {
+            int[] chain = chains[way];
+            QuarterTiles tiles = new QuarterTiles();
+            for (int i = 0; i < chain.length; i++) {
+                tiles.split(chain[i], true);
+                Due.is("unevenness along the side with " + chain[i], tiles.count(6), i);
+                Due.is("neighbours along the side with " + chain[i], tiles.neighbours(beside[way]), i + 2);
+            }
+            for (int deep = 1; deep <= 6; deep++) {
+                tiles.set(DEEP, deep);
+                Due.is("unevenness along the side with DEEP " + deep, tiles.count(6), deep - 1);
+                Due.is("neighbours along the side with DEEP " + deep, tiles.neighbours(beside[way]), deep + 1);
+            }
+        }
+    }
+
+    /** Leaves that meet at a corner alone are no neighbours, whatever their depths are. */
+    private static void unevennessAcrossCorners() {
+        // a leaf of the depth 3 in the middle of the map; across the corner is one of the depth 1
+        int[][] corners = {{1, 4, 5, 6, 19}, {1, 5, 4, 7, 22}, {1, 6, 4, 7, 25}, {1, 7, 5, 6, 28}};
+        for (int[] corner : corners) {
+            QuarterTiles tiles = withOrders(corner);
+            Due.is("unevenness with " + corner[4], tiles.count(6), 1);
+            tiles.split(corner[2], false);
+            Due.is("unevenness without " + corner[2], tiles.count(6), 2);
+        }
     }
 
     // ---- promise 15

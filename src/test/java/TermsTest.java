@@ -28,6 +28,7 @@ public final class TermsTest extends Given {
         numbersWhetherThereOrNot();
         splitByEitherOrBoth();
         orderOfATileNotThere();
+        orderOfATileThatGoes();
         eightDirections();
         cornersOfTheMap();
         edgesOfTheMap();
@@ -211,7 +212,7 @@ public final class TermsTest extends Given {
         Due.is("the 51st", tiles.point(63, 63), TOO_MANY);
         Due.is("50 points still", tiles.count(0), 50);
         tiles.take(0);
-        Due.is("the 50th again", tiles.point(63, 63) > 0 ? 1 : 0, 1);
+        Due.holds("the 50th again", tiles.point(63, 63) > 0);
         Due.is("50 points again", tiles.count(0), 50);
     }
 
@@ -219,11 +220,11 @@ public final class TermsTest extends Given {
     private static void noTwoAtOnePlace() {
         QuarterTiles tiles = withPoints("5,6");
         Due.is("x and y changed about", tiles.point(6, 5), 1);
-        Due.is("the same x", tiles.point(5, 5) > 0 ? 1 : 0, 1);
-        Due.is("the same y", tiles.point(6, 6) > 0 ? 1 : 0, 1);
+        Due.holds("the same x", tiles.point(5, 5) > 0);
+        Due.holds("the same y", tiles.point(6, 6) > 0);
         Due.is("the same place", tiles.point(5, 6), NOT_POSSIBLE);
         tiles.take(0);
-        Due.is("the place of one that was taken away", tiles.point(5, 6) > 0 ? 1 : 0, 1);
+        Due.holds("the place of one that was taken away", tiles.point(5, 6) > 0);
         isAt("it is the last one", tiles, 3, 5, 6);
     }
 
@@ -285,8 +286,8 @@ public final class TermsTest extends Given {
             }
             int depth = depthOf(number);
             Due.is("depth of " + number, tiles.tile(number, 3), depth);
-            Due.is("first letter of " + number, tiles.letter(number, 0) < 0 ? 0 : 1, depth > 0 ? 1 : 0);
-            Due.is("beside " + number, tiles.beside(number, 0, 0) == NO_SUCH ? 1 : 0, depth < 0 ? 1 : 0);
+            Due.holds("first letter of " + number, tiles.letter(number, 0) >= 0 == depth > 0);
+            Due.holds("beside " + number, tiles.beside(number, 0, 0) == NO_SUCH == depth < 0);
             Due.is("neighbours of " + number, tiles.neighbours(number), depth < 0 ? NO_SUCH : depth == 0 ? 0 : NOT_POSSIBLE);
             Due.is("no order to take back from " + number, tiles.split(number, false),
                 depth < 0 || depth == DEEPEST ? NO_SUCH : NOT_POSSIBLE);
@@ -353,6 +354,31 @@ public final class TermsTest extends Given {
         Due.is("one is taken back beyond DEEP", tiles.split(2047, false), 7);
         tiles.set(DEEP, 6);
         Due.is("the others hold on beyond DEEP", tiles.count(1), 16);
+    }
+
+    /** The tile goes by what is done to points and settings, and comes back: its order is there all along. */
+    private static void orderOfATileThatGoes() {
+        Call[] goes = {tiles -> tiles.take(0), tiles -> tiles.move(0, 5, 63), tiles -> tiles.set(FULL, 8),
+            tiles -> tiles.set(DEEP, 1)};
+        Call[] comes = {tiles -> tiles.point(61, 61), tiles -> tiles.move(0, 61, 61), tiles -> tiles.set(FULL, 2),
+            tiles -> tiles.set(DEEP, 6)};
+        for (int way = 0; way < goes.length; way++) {
+            QuarterTiles tiles = withPoints("32,32;63,32;63,63");
+            tiles.split(28, true);
+            tiles.split(112, true);
+            Due.is("an ordered tile in one split by points", tiles.tile(112, 5), 2);
+            Due.holds("it goes by " + way, goes[way].on(tiles) > 0);
+            Due.is("it is not there", tiles.tile(112, 5), 0);
+            Due.is("it is ordered while it is not there", tiles.tile(112, 6), 1);
+            Due.is("both are orders", tiles.count(5), 2);
+            Due.holds("it comes by " + way, comes[way].on(tiles) > 0);
+            Due.is("it is split again", tiles.tile(112, 5), 2);
+            Due.is("leaves then", tiles.count(1), 13);
+        }
+        QuarterTiles none = withPoints("1,1");
+        none.split(1, true);
+        none.take(0);
+        Due.is("an order without points", none.count(1), 4);
     }
 
     // ---- sides
