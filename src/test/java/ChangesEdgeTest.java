@@ -70,7 +70,7 @@ public final class ChangesEdgeTest extends Given {
         Due.is("sets that record", tiles.count(10), 5);
     }
 
-    /** With the least and the greatest of both settings, on as many points side by side as there may be. */
+    /** "FULL (1 to 8; 2)", "DEEP (1 to 6; 6)": the least and the greatest of both, on 50 points side by side. */
     private static void setAtTheEndsOfRanges() {
         QuarterTiles tiles = withFiftyPoints();
         // split of each depth, the points being (0, 0) to (9, 4): with FULL 8 1, 1, 1, 2, 2; with FULL 2 1, 1, 1, 2, 5, 10;
@@ -118,6 +118,7 @@ public final class ChangesEdgeTest extends Given {
 
     // ---- promise 4
 
+    /** "Returns how many leaves there are then": down to no points. */
     private static void takeAnswersLeavesThen() {
         QuarterTiles tiles = withPoints("0,0;63,63;62,63;63,62;0,63");
         Due.is("leaves before", tiles.count(1), 19);
@@ -130,6 +131,7 @@ public final class ChangesEdgeTest extends Given {
         Due.is("the leaves of none", tiles.count(4), 1);
     }
 
+    /** "NO_SUCH if there is no such point": the first and the last of 50 are, the next is not. */
     private static void takeFirstAndLast() {
         QuarterTiles tiles = withFiftyPoints();
         Due.is("take(50)", tiles.take(50), NO_SUCH);
@@ -172,6 +174,7 @@ public final class ChangesEdgeTest extends Given {
         isAt("nothing has moved then", tiles, 2, 0, 1);
     }
 
+    /** "Returns how many leaves there are then": over the sides of tiles. */
     private static void moveAnswersLeavesThen() {
         QuarterTiles tiles = withPoints("0,0;1,0;0,1");
         Due.is("out of the crowd", tiles.move(2, 63, 63), 4);
@@ -206,6 +209,7 @@ public final class ChangesEdgeTest extends Given {
         Due.is("split(4096, false)", new QuarterTiles().split(4096, false), NO_SUCH);
     }
 
+    /** "Returns how many leaves there are then": also of tiles that come and go with another order. */
     private static void splitAnswersLeavesThen() {
         QuarterTiles tiles = new QuarterTiles();
         int leaves = 1;
@@ -264,7 +268,7 @@ public final class ChangesEdgeTest extends Given {
         isAt("the last of 20", eighty, 19, 9, 6);
     }
 
-    /** A point of a text is refused as by point(): also if there are 50. */
+    /** "up to the first one that returns an error": a point of a text is refused as by point(), also if there are 50. */
     private static void putAllUpToFifty() {
         for (int free = 0; free <= 3; free++) {
             QuarterTiles tiles = withFiftyPoints();

@@ -83,6 +83,7 @@ public final class QuestionsEdgeTest extends Given {
         }
     }
 
+    /** "3 its place in the order of paths": of as many points as there may be. */
     private static void orderOfFiftyPoints() {
         QuarterTiles tiles = new QuarterTiles();
         // along the path: places 2 * i from the last one on, so that the order is that of the numbers turned about
@@ -112,6 +113,7 @@ public final class QuestionsEdgeTest extends Given {
         Due.is("leafAt of the whole map", new QuarterTiles().leafAt(63, 63), 1);
     }
 
+    /** "Returns the leaf of a place": of one place, and the leaves around it. */
     private static void leafAtDeepest() {
         QuarterTiles tiles = withOrders(1, 4, 16, 64, 256, 1024, 7, 31, 127, 511, 2047);
         int[][] due = {{0, 0, 4096}, {1, 0, 4097}, {0, 1, 4098}, {1, 1, 4099}, {2, 0, 1025}, {0, 2, 1026}, {62, 62, 8188},
@@ -121,6 +123,7 @@ public final class QuestionsEdgeTest extends Given {
 
     // ---- promise 10
 
+    /** "0 its least x, 1 its least y, 2 its size, 3 its depth ..": of the least and the greatest number of each depth. */
     private static void tileOfLeastAndGreatestNumber() {
         for (int depth = 0; depth <= 6; depth++) {
             int size = 64 >> depth;
@@ -253,7 +256,7 @@ public final class QuestionsEdgeTest extends Given {
 
     // ---- promise 13
 
-    /** Leaves at the edges and corners of the map have no neighbours beyond it. */
+    /** "Returns how many leaves are neighbours of a leaf": at the edges and corners there are none beyond the map. */
     private static void neighboursOfEdges() {
         Due.is("the whole map", new QuarterTiles().neighbours(1), 0);
         QuarterTiles tiles = withOrders(1, 4, 5, 6, 7);
@@ -269,7 +272,7 @@ public final class QuestionsEdgeTest extends Given {
         Due.is("neighbours(8192)", tiles.neighbours(8192), NO_SUCH);
     }
 
-    /** Each leaf along a side counts once, however small; a large one counts once for each small one. */
+    /** "Returns how many leaves are neighbours of a leaf": each along a side counts once, however small it is. */
     private static void neighboursOfMany() {
         QuarterTiles tiles = withPoints("32,0;32,2;32,4;32,6;32,8;32,10;32,12;32,14;32,16;32,18;32,20;32,22");
         tiles.set(FULL, 1);
@@ -284,7 +287,7 @@ public final class QuestionsEdgeTest extends Given {
         Due.is("neighbours of a, split around with 12 orders", all.neighbours(4), 13);
     }
 
-    /** A quarter counts for the leaf beside it if it is at this side, whether it is split once or twice. */
+    /** "if a place of the one, and one of the other, differ by 1": a quarter at the side counts, another one does not. */
     private static void neighboursAcrossEachSide() {
         // a leaf, the tile beside it, the two quarters of this one that are at the side of the leaf
         int[][] sides = {{4, 5, 0, 2}, {4, 6, 0, 1}, {7, 6, 1, 3}, {7, 5, 2, 3}};
@@ -309,7 +312,7 @@ public final class QuestionsEdgeTest extends Given {
 
     // ---- promise 14
 
-    /** The least that each number can be. */
+    /** "Returns a number": the least that each can be. "BAD_VALUE if what is out of range." */
     private static void countLeast() {
         int[] least = {0, 1, 1, 0, 1, 0, 0, 1, 1, 0, 2};
         QuarterTiles tiles = new QuarterTiles();
@@ -329,7 +332,7 @@ public final class QuestionsEdgeTest extends Given {
         Due.is("count(6) of one leaf", one.count(6), 0);
     }
 
-    /** The greatest that a number can be, where the document tells one. */
+    /** "Returns a number": the greatest that it can be, where the document tells one. */
     private static void countGreatest() {
         QuarterTiles tiles = withFiftyPoints();
         tiles.set(FULL, 8);
@@ -368,7 +371,7 @@ public final class QuestionsEdgeTest extends Given {
         Due.is("leaves without points of 50", withFiftyPoints().count(4), 16);
     }
 
-    /** Tiles at the depth DEEP are leaves, also with too many points and with orders. */
+    /** "if its depth is less than DEEP": tiles at this depth are leaves, also with too many points and with orders. */
     private static void countUpToDeep() {
         QuarterTiles tiles = withPoints("0,0;1,0");
         tiles.set(FULL, 1);
@@ -390,6 +393,7 @@ public final class QuestionsEdgeTest extends Given {
         }
     }
 
+    /** "1 leaves, 2 tiles that are there, 3 the greatest depth of a leaf ..": an order alone brings no tile there. */
     private static void ordersOfTilesNotThereCountForNothing() {
         for (int split = 4; split <= 7; split++) {
             for (int leaf = 4; leaf <= 7; leaf++) {
@@ -423,7 +427,7 @@ public final class QuestionsEdgeTest extends Given {
         Due.is("unevenness of steps", withOrders(1, 7, 31, 127, 511, 2047).count(6), 1);
     }
 
-    /** Leaves that are smaller and smaller, beside one of the depth 1, at both ends of each of its sides. */
+    /** "the greatest difference of depth": smaller and smaller leaves, at both ends of each side of a large one. */
     private static void unevennessAcrossEachSide() {
         int[][] chains = {{1, 4, 17, 69, 277, 1109}, {1, 4, 18, 74, 298, 1194}, {1, 5, 20, 80, 320, 1280},
             {1, 6, 24, 96, 384, 1536}, {1, 6, 27, 111, 447, 1791}, {1, 5, 23, 95, 383, 1535}, {1, 5, 22, 90, 362, 1450},
@@ -445,7 +449,7 @@ public final class QuestionsEdgeTest extends Given {
         }
     }
 
-    /** Leaves that meet at a corner alone are no neighbours, whatever their depths are. */
+    /** "two leaves that are neighbours": those that meet at a corner alone are none, whatever their depths are. */
     private static void unevennessAcrossCorners() {
         // a leaf of the depth 3 in the middle of the map; across the corner is one of the depth 1
         int[][] corners = {{1, 4, 5, 6, 19}, {1, 5, 4, 7, 22}, {1, 6, 4, 7, 25}, {1, 7, 5, 6, 28}};
@@ -487,6 +491,7 @@ public final class QuestionsEdgeTest extends Given {
         Due.is("y -1", tiles.window(0, -1, 0, 0, 0), NO_SUCH);
     }
 
+    /** "the places from (x, y) to (toX, toY), both in it": the whole map, and parts of it up to its edges. */
     private static void windowOfAll() {
         windowIs(new QuarterTiles(), new int[] {0, 0, 63, 63, 0, 1, 1, 1});
         QuarterTiles tiles = withFiftyPoints();
@@ -498,7 +503,7 @@ public final class QuestionsEdgeTest extends Given {
         windowIs(tiles, new int[] {9, 4, 63, 63, 1, 9, 13, 1});
     }
 
-    /** Tiles and points just inside of the window's sides, and just outside of them. */
+    /** "the places from (x, y) to (toX, toY), both in it": what is just inside of its sides, and just outside. */
     private static void windowAtSides() {
         QuarterTiles tiles = withOrders(1, 4, 19);
         tiles.set(FULL, 8);
@@ -547,6 +552,7 @@ public final class QuestionsEdgeTest extends Given {
         Due.is("its sum too", later.nearest(4, 5, 1), 1);
     }
 
+    /** "the least sum of the squares of both differences": the greatest that it can be, and 0. */
     private static void nearestFarthest() {
         for (int corner = 0; corner < 4; corner++) {
             int x = corner % 2 * 63;
@@ -564,7 +570,7 @@ public final class QuestionsEdgeTest extends Given {
 
     // ---- promise 17
 
-    /** What ifPut tells is what point() brings then. */
+    /** "Tells what a point at a place would bring": that is what point() brings then. */
     private static void ifPutAsPoint() {
         QuarterTiles tiles = withOrders(7, 31);
         for (int i = 0; i < 50; i++) {
@@ -578,7 +584,7 @@ public final class QuestionsEdgeTest extends Given {
         }
     }
 
-    /** As many as FULL split nothing, one more does. */
+    /** "0 how many leaves there would be": as many points as FULL split nothing, one more does. */
     private static void ifPutAtFull() {
         for (int full = 1; full <= 8; full++) {
             QuarterTiles tiles = new QuarterTiles();
@@ -595,7 +601,7 @@ public final class QuestionsEdgeTest extends Given {
         }
     }
 
-    /** The depth of a leaf goes to DEEP, and not beyond. */
+    /** "1 the depth of its leaf": up to DEEP, and not beyond. */
     private static void ifPutDeepest() {
         QuarterTiles tiles = withPoints("63,63");
         tiles.set(FULL, 1);

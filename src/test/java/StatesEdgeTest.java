@@ -146,7 +146,7 @@ public final class StatesEdgeTest extends Given {
         Due.is("a point that is there already is no fault", withText("1,1;1,1").fault(), NONE);
     }
 
-    /** put() and wipe() are not said to be changes; putAll() is one. */
+    /** "each method that is a change, and returns no error, records": put() and wipe() are none, putAll() is one. */
     private static void padIsNoChange() {
         QuarterTiles tiles = new QuarterTiles();
         text(tiles, EIGHTY);
@@ -185,6 +185,7 @@ public final class StatesEdgeTest extends Given {
         }
     }
 
+    /** "when one more is recorded, the oldest one is dropped": also when some were undone before. */
     private static void historyFilledAgain() {
         QuarterTiles tiles = new QuarterTiles();
         for (int i = 0; i < 6; i++) {
@@ -283,6 +284,7 @@ public final class StatesEdgeTest extends Given {
         Due.is("no points", tiles.count(0), 0);
     }
 
+    /** "everything except the pad, the slots and the history". */
     private static void undoLeavesPadAndSlots() {
         QuarterTiles tiles = withPoints("1,1");
         tiles.save(0);
@@ -346,6 +348,7 @@ public final class StatesEdgeTest extends Given {
         }
     }
 
+    /** "Saves .. in a slot": it is not said to be a change, so that it records nothing. */
     private static void saveIsNoChange() {
         QuarterTiles tiles = new QuarterTiles();
         tiles.save(0);
@@ -438,7 +441,7 @@ public final class StatesEdgeTest extends Given {
         Due.is("a change after it", tiles.restore(1), 1);
     }
 
-    /** All that is saved comes back, also over as much as there may be; and undo brings that back. */
+    /** "Restores what was saved last": all of it, also over as much as there may be; and undo brings that back. */
     private static void restoreOfEverything() {
         QuarterTiles tiles = someState();
         tiles.save(1);

@@ -125,6 +125,7 @@ public final class TermsTest extends Given {
         }
     }
 
+    /** "FULL (1 to 8; 2), the most points of a tile that is not split for them", of a tile that is not the whole map. */
     private static void mostPointsOfAQuarter() {
         for (int full = 1; full <= 8; full++) {
             QuarterTiles tiles = withOrders(1);
@@ -356,7 +357,7 @@ public final class TermsTest extends Given {
         Due.is("the others hold on beyond DEEP", tiles.count(1), 16);
     }
 
-    /** The tile goes by what is done to points and settings, and comes back: its order is there all along. */
+    /** "(An order holds on, also while its tile is not there.)": the tile goes by what is done to points and settings. */
     private static void orderOfATileThatGoes() {
         Call[] goes = {tiles -> tiles.take(0), tiles -> tiles.move(0, 5, 63), tiles -> tiles.set(FULL, 8),
             tiles -> tiles.set(DEEP, 1)};
@@ -417,7 +418,7 @@ public final class TermsTest extends Given {
         Due.is(call + ", 1)", tiles.beside(tile, direction, 1), isBeyond ? NONE : 1);
     }
 
-    /** In each corner of the map, at each depth, there are tiles in three directions. */
+    /** "there is none beyond the map": in each corner, at each depth, there are tiles in three directions. */
     private static void cornersOfTheMap() {
         int[] firstInside = {0, 2, 6, 4};
         for (int depth = 1; depth <= DEEPEST; depth++) {
@@ -436,7 +437,7 @@ public final class TermsTest extends Given {
         }
     }
 
-    /** At the edges, away from the corners, there are none in three directions. */
+    /** "there is none beyond the map": at the edges, away from the corners, there are none in three directions. */
     private static void edgesOfTheMap() {
         int[] firstBeyond = {3, 5, 7, 1};
         for (int depth = 2; depth <= DEEPEST; depth++) {
@@ -524,6 +525,7 @@ public final class TermsTest extends Given {
         }
     }
 
+    /** "if there is none and the text ends too early .., it is the length of the text". */
     private static void textsCutShort() {
         String text = "12,34;56,7";
         int[] due = {0, 1, 2, 3, NONE, NONE, 6, 7, 8, 9, NONE};
