@@ -178,7 +178,7 @@ public final class QuarterTiles {
             case 6:
                 return tree.plan.isOrdered(tile) ? 1 : 0;
             case 7:
-                return tree.isThere(tile, depth) ? tree.leavesIn(tile, depth) : 0;
+                return tree.isThere(tile, depth) ? Tree.leavesIn(tree, tile, depth) : 0;
             default:
                 return BAD_VALUE;
         }
@@ -227,13 +227,13 @@ public final class QuarterTiles {
             case 2:
                 return tree.tiles();
             case 3:
-                return tree.deepestIn(WHOLE_MAP, 0);
+                return Tree.deepestIn(tree, WHOLE_MAP, 0);
             case 4:
-                return tree.emptyLeavesIn(WHOLE_MAP, 0);
+                return Tree.emptyLeavesIn(tree, WHOLE_MAP, 0);
             case 5:
                 return tree.plan.orders;
             case 6:
-                return tree.unevennessIn(WHOLE_MAP, 0);
+                return Tree.unevennessIn(tree, WHOLE_MAP, 0);
             case 7:
                 return tree.plan.full;
             case 8:
@@ -259,9 +259,9 @@ public final class QuarterTiles {
             case 0:
                 return tree.plan.pointsInside(window);
             case 1:
-                return tree.leavesMeeting(window, WHOLE_MAP, 0);
+                return Tree.leavesMeeting(tree, window, WHOLE_MAP, 0);
             case 2:
-                return tree.tilesMeeting(window, WHOLE_MAP, 0);
+                return Tree.tilesMeeting(tree, window, WHOLE_MAP, 0);
             case 3:
                 return tree.smallestWith(window);
             default:
@@ -689,10 +689,10 @@ public final class QuarterTiles {
             return Numbers.upTo(from, DEEPEST, depth);
         }
 
-        // ---- sums over the tiles in a tile that is there
+        // ---- sums over the tiles in a tile that is there; methods that call themselves are private and static
 
         int leaves() {
-            return leavesIn(WHOLE_MAP, 0);
+            return leavesIn(this, WHOLE_MAP, 0);
         }
 
         int tiles() {
@@ -701,61 +701,61 @@ public final class QuarterTiles {
             return leaves + (leaves - 1) / (QUARTERS - 1);
         }
 
-        private int leavesIn(int tile, int depth) {
-            if (depth >= DEEPEST || !wouldBeSplit(tile, depth)) {
+        private static int leavesIn(Tree tree, int tile, int depth) {
+            if (depth >= DEEPEST || !tree.wouldBeSplit(tile, depth)) {
                 return 1;
             }
             int sum = 0;
             for (int quarter = 0; quarter < QUARTERS; quarter++) {
-                sum += leavesIn(QUARTERS * tile + quarter, depth + 1);
+                sum += leavesIn(tree, QUARTERS * tile + quarter, depth + 1);
             }
             return sum;
         }
 
-        private int emptyLeavesIn(int tile, int depth) {
-            if (depth >= DEEPEST || !wouldBeSplit(tile, depth)) {
-                return pointsIn(tile) == 0 ? 1 : 0;
+        private static int emptyLeavesIn(Tree tree, int tile, int depth) {
+            if (depth >= DEEPEST || !tree.wouldBeSplit(tile, depth)) {
+                return tree.pointsIn(tile) == 0 ? 1 : 0;
             }
             int sum = 0;
             for (int quarter = 0; quarter < QUARTERS; quarter++) {
-                sum += emptyLeavesIn(QUARTERS * tile + quarter, depth + 1);
+                sum += emptyLeavesIn(tree, QUARTERS * tile + quarter, depth + 1);
             }
             return sum;
         }
 
-        private int deepestIn(int tile, int depth) {
-            if (depth >= DEEPEST || !wouldBeSplit(tile, depth)) {
+        private static int deepestIn(Tree tree, int tile, int depth) {
+            if (depth >= DEEPEST || !tree.wouldBeSplit(tile, depth)) {
                 return depth;
             }
             int deepest = 0;
             for (int quarter = 0; quarter < QUARTERS; quarter++) {
-                deepest = Math.max(deepest, deepestIn(QUARTERS * tile + quarter, depth + 1));
+                deepest = Math.max(deepest, deepestIn(tree, QUARTERS * tile + quarter, depth + 1));
             }
             return deepest;
         }
 
-        private int leavesMeeting(Window window, int tile, int depth) {
+        private static int leavesMeeting(Tree tree, Window window, int tile, int depth) {
             if (!window.meets(tile, depth)) {
                 return 0;
             }
-            if (depth >= DEEPEST || !wouldBeSplit(tile, depth)) {
+            if (depth >= DEEPEST || !tree.wouldBeSplit(tile, depth)) {
                 return 1;
             }
             int sum = 0;
             for (int quarter = 0; quarter < QUARTERS; quarter++) {
-                sum += leavesMeeting(window, QUARTERS * tile + quarter, depth + 1);
+                sum += leavesMeeting(tree, window, QUARTERS * tile + quarter, depth + 1);
             }
             return sum;
         }
 
-        private int tilesMeeting(Window window, int tile, int depth) {
+        private static int tilesMeeting(Tree tree, Window window, int tile, int depth) {
             if (!window.meets(tile, depth)) {
                 return 0;
             }
             int sum = 1;
-            if (depth < DEEPEST && wouldBeSplit(tile, depth)) {
+            if (depth < DEEPEST && tree.wouldBeSplit(tile, depth)) {
                 for (int quarter = 0; quarter < QUARTERS; quarter++) {
-                    sum += tilesMeeting(window, QUARTERS * tile + quarter, depth + 1);
+                    sum += tilesMeeting(tree, window, QUARTERS * tile + quarter, depth + 1);
                 }
             }
             return sum;
@@ -769,32 +769,32 @@ public final class QuarterTiles {
                 int next = Numbers.nextTo(leaf, depth, direction);
                 if (next != NONE) {
                     // a tile that is not there lies in one leaf, and no leaf lies on two sides of another
-                    sum += isThere(next, depth) ? leavesSeen(next, depth, direction) : 1;
+                    sum += isThere(next, depth) ? leavesSeen(this, next, depth, direction) : 1;
                 }
             }
             return sum;
         }
 
         /** The leaves of a tile that reach the side from which the tile is seen in a direction. */
-        private int leavesSeen(int tile, int depth, int direction) {
-            if (depth >= DEEPEST || !wouldBeSplit(tile, depth)) {
+        private static int leavesSeen(Tree tree, int tile, int depth, int direction) {
+            if (depth >= DEEPEST || !tree.wouldBeSplit(tile, depth)) {
                 return 1;
             }
             int side = direction / 2;
             if (side < 0 || side >= ONE_QUARTER_SEEN.length || side >= OTHER_QUARTER_SEEN.length) {
                 return 0;
             }
-            return leavesSeen(QUARTERS * tile + ONE_QUARTER_SEEN[side], depth + 1, direction)
-                + leavesSeen(QUARTERS * tile + OTHER_QUARTER_SEEN[side], depth + 1, direction);
+            return leavesSeen(tree, QUARTERS * tile + ONE_QUARTER_SEEN[side], depth + 1, direction)
+                + leavesSeen(tree, QUARTERS * tile + OTHER_QUARTER_SEEN[side], depth + 1, direction);
         }
 
-        private int unevennessIn(int tile, int depth) {
-            if (depth >= DEEPEST || !wouldBeSplit(tile, depth)) {
-                return greatestStepOutOf(tile, depth);
+        private static int unevennessIn(Tree tree, int tile, int depth) {
+            if (depth >= DEEPEST || !tree.wouldBeSplit(tile, depth)) {
+                return tree.greatestStepOutOf(tile, depth);
             }
             int greatest = 0;
             for (int quarter = 0; quarter < QUARTERS; quarter++) {
-                greatest = Math.max(greatest, unevennessIn(QUARTERS * tile + quarter, depth + 1));
+                greatest = Math.max(greatest, unevennessIn(tree, QUARTERS * tile + quarter, depth + 1));
             }
             return greatest;
         }

@@ -11,6 +11,7 @@ public final class QuestionsEdgeTest extends Given {
         leafAtDeepest();
         tileOfLeastAndGreatestNumber();
         tilePoints();
+        pointsOfTilesNotThere();
         tileKinds();
         tileLeaves();
         letterFirstAndLast();
@@ -160,6 +161,25 @@ public final class QuestionsEdgeTest extends Given {
         Due.is("points at the first place then", tiles.tile(7168, 4), 1);
         Due.is("points at the last place then", tiles.tile(8191, 4), 0);
         Due.is("50 points", withFiftyPoints().tile(1, 4), 50);
+    }
+
+    /** "A tile is a square of places"; "4 its points, how many": also of tiles of each depth that are not there. */
+    private static void pointsOfTilesNotThere() {
+        QuarterTiles tiles = withPoints("63,63;0,0");
+        Due.is("the whole map is a leaf", tiles.tile(1, 5), 1);
+        for (int depth = 1; depth <= 6; depth++) {
+            int first = NUMBERS_OF_DEPTH[depth][0];
+            int last = NUMBERS_OF_DEPTH[depth][1];
+            Due.is("tile " + last + " is not there", tiles.tile(last, 5), 0);
+            Due.is("points in tile " + last, tiles.tile(last, 4), 1);
+            Due.is("points in tile " + (last - 1), tiles.tile(last - 1, 4), 0);
+            Due.is("points in tile " + first, tiles.tile(first, 4), 1);
+            Due.is("points in tile " + (first + 1), tiles.tile(first + 1, 4), 0);
+        }
+        tiles.take(0);
+        Due.is("points in tile 7 then", tiles.tile(7, 4), 0);
+        tiles.undo();
+        Due.is("points in tile 7 again", tiles.tile(7, 4), 1);
     }
 
     /** "5 what it is: 0 not there, 1 a leaf, 2 split; 6 whether it is ordered to be split (1 or 0)". */

@@ -227,7 +227,11 @@ public final class RefusalTest extends Given {
         refusedAlways("ifPut(63, 63, " + wrong + ")", tiles -> tiles.ifPut(63, 63, wrong), BAD_VALUE);
     }
 
-    /** "NO_SUCH if there is no such place; BAD_VALUE if toX or toY is below x or y, or what is out of range". */
+    /**
+     * "NO_SUCH if there is no such place; BAD_VALUE if toX or toY is below x or y, or what is out of range": a method
+     * "names its errors in the order in which they are checked, and the first one that applies is returned", so a
+     * coordinate off the map goes ahead of all else.
+     */
     private static void windowsRefused() {
         for (int wrong : NO_COORDINATES) {
             int[][] places = {{wrong, 5, 9, 9, 0}, {5, wrong, 9, 9, 1}, {5, 5, wrong, 9, 2}, {5, 5, 9, wrong, 3},
